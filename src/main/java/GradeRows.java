@@ -17,7 +17,7 @@ public final class GradeRows {
     private static final int HINT_REGION = 1;
     private static final int HINT_PLACE = 2;
     private static final int HINT_RULE = 3;
-    private static final int HINT_ALL = 4;
+    private static final int HINT_WIDTH = 4;
     private static final int PLACES_IN_REGION = 16;
     private static final int HINT_OF_GUESS = -2;
     private static final int NO_ROW = -2;
@@ -124,11 +124,11 @@ public final class GradeRows {
     }
 
     public int hint(int degree) {
-        if (!isWithin(degree, HINT_REGION, HINT_ALL) || !steps.has(cursor)) {
+        if (!isWithin(degree, HINT_REGION, HINT_WIDTH) || !steps.has(cursor)) {
             return NONE;
         }
         int answer = steps.isGuess(cursor) ? hintOfGuess(degree) : hintOfRuleStep(degree);
-        if (degree == HINT_ALL) {
+        if (degree == HINT_WIDTH) {
             cursor++;
         }
         return answer;
@@ -154,7 +154,7 @@ public final class GradeRows {
     }
 
     private int hintOfGuess(int degree) {
-        return degree == HINT_ALL ? steps.widthAt(cursor) : HINT_OF_GUESS;
+        return degree == HINT_WIDTH ? steps.widthAt(cursor) : HINT_OF_GUESS;
     }
 
     private int hintOfRuleStep(int degree) {

@@ -28,6 +28,7 @@ public final class PromisesTest {
         promise18CompareBySumsAndCounts();
         promise18CompareByCosts();
         promise19Same();
+        promise18And19FullRows();
         ANSWERS.finish();
     }
 
@@ -327,6 +328,14 @@ public final class PromisesTest {
         due("10 three below", x.rank(), 3);
         x.guess(10);
         due("10 above all", x.rank(), -1);
+        GradeRows y = new GradeRows();
+        y.cls(0, 999);
+        y.cls(1000, 2000);
+        y.guess(1);
+        due("10 at a low", y.rank(), 1);
+        y.drop();
+        y.guess(2);
+        due("10 its own class is not below", y.rank(), 1);
     }
 
     private static void promise11Gap() {
@@ -478,6 +487,8 @@ public final class PromisesTest {
         due("16 rule 0", x.hint(3), 0);
         due("16 width 3", x.hint(4), 3);
         due("16 behind the last", x.hint(3), -1);
+        x.used(0, 16, 1);
+        due("16 place 16 divided", x.hint(1), 1);
     }
 
     private static void promise16HintMovesTheCursor() {
@@ -507,6 +518,8 @@ public final class PromisesTest {
         }
         due("17 the 11th", x.keep(), -1);
         due("17 the 11th again", x.keep(), -1);
+        due("17 nor is it there", x.compare(10), -2);
+        due("17 nor has it steps", x.same(10), false);
         due("17 row 0 is as it was", x.same(0), false);
         due("17 row 9 is of now", x.same(9), true);
         x.drop();
@@ -623,6 +636,38 @@ public final class PromisesTest {
         y.guess(1);
         due("19 guesses turned round", y.same(0), true);
         due("19 though the costs differ", y.compare(0), -1);
+        GradeRows z = withRules();
+        z.used(0, 1, 1);
+        z.keep();
+        z.drop();
+        z.used(1, 0, 1);
+        due("19 rule and place changed about", z.same(0), false);
+        z.drop();
+        z.used(0, 0, 9);
+        due("19 a place less and a width more", z.same(0), false);
+    }
+
+    private static void promise18And19FullRows() {
+        GradeRows x = withRules();
+        for (int i = 0; i < 199; i++) {
+            x.used(0, i, 1 + i % 9);
+        }
+        x.used(0, 255, 1);
+        x.keep();
+        due("18 two full rows", x.compare(0), 0);
+        due("19 two full rows", x.same(0), true);
+        x.drop();
+        x.used(0, 254, 1);
+        due("18 full, alike costs", x.compare(0), 0);
+        due("19 full, another place", x.same(0), false);
+        x.drop();
+        x.drop();
+        x.used(0, 255, 1);
+        x.used(0, 198, 1);
+        due("19 full, the last two turned round", x.same(0), true);
+        x.drop();
+        x.used(0, 198, 2);
+        due("18 full, one cheaper", x.compare(0), -1);
     }
 
     /** The kept row's steps turned round, with the given one in the place of its first. */
