@@ -49,8 +49,9 @@ public final class PromisesTest {
     }
 
     private static void dropAll(GradeRows x) {
-        for (int i = 0; i < 200; i++) {
-            x.drop();
+        boolean more = true;
+        for (int i = 0; i < 200 && more; i++) {
+            more = x.drop();
         }
     }
 
