@@ -31,6 +31,7 @@ public final class FaceTest {
             for (Field field : inside.getDeclaredFields()) {
                 staticIsFinal(field);
             }
+            privateNamesAreNotOfTheFace(inside);
         }
         ANSWERS.finish();
     }
@@ -52,6 +53,14 @@ public final class FaceTest {
             }
         }
         ANSWERS.due("the methods " + seen, seen.equals(FACE), true);
+    }
+
+    private static void privateNamesAreNotOfTheFace(Class<?> inside) {
+        for (Method method : inside.getDeclaredMethods()) {
+            boolean taken = FACE.stream().anyMatch(written -> written.contains(" " + method.getName() + "("));
+            ANSWERS.due("own name " + inside.getName() + "." + method.getName(),
+                Modifier.isPrivate(method.getModifiers()) && taken, false);
+        }
     }
 
     private static void constructorIsTheFace() {

@@ -29,6 +29,7 @@ public final class PromisesTest {
         promise18CompareByCosts();
         promise19Same();
         promise18And19FullRows();
+        exampleOfTheReadme();
         ANSWERS.finish();
     }
 
@@ -679,5 +680,21 @@ public final class PromisesTest {
         x.used(1, 1, 2);
         x.used(rule, place, width);
         due("19 " + how, x.same(1), want);
+    }
+
+    private static void exampleOfTheReadme() {
+        GradeRows rows = new GradeRows();
+        int single = rows.rule(40, 100);
+        due("README rule", single, 0);
+        due("README used", rows.used(single, 17, 1), 0);
+        due("README guess", rows.guess(2), 1);
+        due("README sum", rows.sum(2), 210 + 2000);
+        due("README cls", rows.cls(0, 5000), 0);
+        due("README grade", rows.grade(), 0);
+        due("README hint", rows.hint(1), 1);
+        int row = rows.keep();
+        due("README keep", row, 0);
+        due("README drop", rows.drop(), true);
+        due("README compare", rows.compare(row), -1);
     }
 }
